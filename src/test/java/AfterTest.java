@@ -88,6 +88,8 @@ public final class AfterTest {
         new Bench("29 again, flat").due(
             "tariff 3; slot 0 1 0; hire 0 4 0 0; extra 50; run 30; end 6 = 370; about 15 = 0; again = 370; set 0 11 6; set 0 12 4; again = 4050; about 15 = 0; fare = 370",
             "set 0 13 1; again = 51; hire 0 6 0 0; end 4 = 1; again = 1; set 0 11 5; again = 300; about 15 = 1");
+        new Bench("29 again, dark seconds have no way").due(DAY,
+            "set 0 5 0; set 0 3 1000000; hire 0 0 0 0; run 30; end 0 = 320; again = 320; row 0 60; again = 320; pulse 0 0 1; again = 300");
         new Bench("29 again, dark seconds stay told").due(DAY,
             "hire 0 0 0 0; run 5; end 0; about 7 = 5; row 0 60; again = 300; about 7 = 5; dark 4 = 4");
     }

@@ -177,7 +177,7 @@ public final class HireTest {
         String setUp = "tariff 3; slot 0 1 0; tariff 0; slot 1 1 1; tariff 3; slot 2 1 2; set 0 11 7; set 0 12 9; set 0 13 5000; row 0 60";
         new Bench("22 flat").due(setUp,
             "hire 0 7 0 0; extra 3; run 60; fare = 343; about 15 = 0; end 9 = 5003; about 15 = 1; fare = 5003; about 5 = 3; receipt 0 0 = 5003",
-            "hire 0 9 0 0; end 7 = 5000; hire 0 7 0 0; end 7 = 300; about 15 = 0; hire 0 9 0 0; end 9 = 300; hire 0 7 0 0; end 8 = 300; hire 0 8 0 0; end 9 = 300",
+            "hire 0 9 0 0; about 15 = 0; end 7 = 5000; hire 0 7 0 0; end 7 = 300; about 15 = 0; hire 0 9 0 0; end 9 = 300; hire 0 7 0 0; end 8 = 300; hire 0 8 0 0; end 9 = 300",
             "set 0 12 7; hire 0 7 0 0; end 7 = 5000; hire 0 7 0 0; end 9 = 300; hire 0 9 0 0; end 9 = 300; hire 0 8 0 0; end 8 = 300; hire 0 9 0 0; end 7 = 300");
         new Bench("22 flat and hands").due(setUp,
             "hire 0 7 0 0; hand 0 = 0; end 9 = 5000; hire 0 7 0 0; hand 1; end 9 = 300; hire 0 7 0 0; hand 1; hand 0; end 9 = 300; about 15 = 0; about 9 = 0",

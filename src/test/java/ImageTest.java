@@ -24,6 +24,8 @@ public final class ImageTest {
             "second; about 7 = 2; about 8 = 1; back = 14; about 8 = 0; back = 14; run 3840 = 3826; second = STATE; back = 14; second; about 2 = 15; end 0; receipt 0 2 = 15");
         new Bench("36 the part of the image is its own").due(DAY,
             "set 0 4 3; row 0 60; pulse 0 5 11; pulse 0 6 13; set 0 3 999983; hire 0 0 0 0; run 2; keep; run 5; back = 2; part 3 = 2; part 1000000 = 666666; second = 1; part 1000000 = 0");
+        new Bench("36 the way of the image").due("tariff 2; slot 0 1 0; set 0 9 10000; wheel 10 0 1; row 0 60; pulse 0 0 1; pulse 0 1 1; pulse 0 2 1",
+            "hire 0 0 0 0; second; keep; second; second; about 6 = 30000; part 100 = 40; back; about 6 = 10000; part 100 = 10; second; part 100 = 20");
         new Bench("36 rows as they are now").due(DAY,
             "row 0 60; hire 0 0 0 0; run 5; keep; run 5; pulse 0 5 300; back = 5; about 6 = 0; second = 1; about 6 = 150000");
     }
