@@ -47,7 +47,8 @@ public final class HireTest {
             "set 0 1 50; set 0 3 10000; row 0 60; pulse 0 0 40; pulse 0 1 40; hire 0 0 0 0; second = 40; fare = 300; about 4 = 9",
             "second = 40; fare = 920; about 4 = 0");
         new Bench("18 the 3840th second is the last one").due(DAY,
-            "hire 0 0 0 0; run 3839 = 3839; second = 1; second = STATE; about 2 = 3840; run 1 = 0; run 0 = 0; about 7 = 3840; dark 3839 = 3839; dark 3840 = NOSUCH",
+            "hire 0 0 0 0; run 3839 = 3839; second = 1; second = STATE; about 2 = 3840; run 1 = 0; run 0 = 0; about 7 = 3840; "
+                + "dark 3839 = 3839; dark 3840 = NOSUCH",
             "about 3 = 128; fare = 2860; end 0 = 2860");
         new Bench("18 a second is told by its row and number").due(DAY,
             "row 1 2; pulse 1 0 40; pulse 1 1 60; row 0 60; pulse 0 59 20; hire 0 0 0 0; run 59; about 6 = 0; second; about 6 = 10000",
@@ -123,7 +124,8 @@ public final class HireTest {
         new Bench("20 hand").due("tariff 0; tariff 1; slot 0 1 0; slot 1 1 1; slot 2 1 1; hire 0 0 0 0",
             "hand 0 = 0; about 10 = 0; hand 1 = 1; about 9 = 1; about 10 = 1; hand 2 = 0; about 10 = 1; hand 0 = 1; about 10 = 2; about 9 = 0");
         new Bench("20 it stands, or not").due(DAY, "row 0 3; pulse 0 0 1; hire 0 0 0 0; about 8 = 1; hand 0 = 0",
-            "second; about 8 = 0; hand 0 = STATE; hand 12 = STATE; second; about 8 = 1; hand 0 = 0; second; about 8 = 1; second; about 8 = 0; hand 5 = STATE",
+            "second; about 8 = 0; hand 0 = STATE; hand 12 = STATE; second; about 8 = 1; hand 0 = 0; second; about 8 = 1; second; "
+                + "about 8 = 0; hand 5 = STATE",
             "end 0; about 8 = 0; hire 0 0 0 0; about 8 = 1; end 0; about 8 = 0");
         new Bench("20 fifty hands").due("tariff 0; tariff 0; slot 0 1 0; slot 1 1 1; hire 0 0 0 0")
             .times(25, "hand 1 = 1; hand 1 = 0; hand 0 = 1")
@@ -133,7 +135,8 @@ public final class HireTest {
     private static void handAndParts() {
         new Bench("20 part and paid steps stay").due(
             "tariff 0; tariff 0; slot 0 1 0; slot 1 1 1; set 0 1 5; set 0 4 7; set 1 4 11; set 1 0 9; set 1 1 9; set 1 2 1; row 0 60",
-            "hire 0 0 0 0; run 3; about 4 = 4; hand 1 = 1; about 4 = 4; part 7 = 3; fare = 300; run 6; part 77 = 75; second = 1; part 77 = 5; about 4 = 3",
+            "hire 0 0 0 0; run 3; about 4 = 4; hand 1 = 1; about 4 = 4; part 7 = 3; fare = 300; run 6; part 77 = 75; second = 1; "
+                + "part 77 = 5; about 4 = 3",
             "hand 0 = 1; run 6; part 77 = 71; second = 1; part 77 = 5; about 4 = 2; fare = 300");
         new Bench("20 the price is that of the tariff at hand").due(
             "tariff 0; tariff 0; slot 0 1 0; slot 1 1 1; set 0 4 2; set 1 4 2; set 1 2 3; row 0 60; hire 0 0 0 0",
@@ -170,17 +173,21 @@ public final class HireTest {
 
     private static void end() {
         new Bench("22 end").due("end 0 = STATE; end -1 = STATE", DAY,
-            "hire 0 3 0 0; end -1 = ARGUMENT; end 100 = ARGUMENT; about 1 = 1; about 14 = -1; end 99 = 300; about 14 = 99; about 13 = 3; about 1 = 0; end 0 = STATE");
+            "hire 0 3 0 0; end -1 = ARGUMENT; end 100 = ARGUMENT; about 1 = 1; about 14 = -1; end 99 = 300; about 14 = 99; about 13 = 3; "
+                + "about 1 = 0; end 0 = STATE");
     }
 
     private static void flat() {
         String setUp = "tariff 3; slot 0 1 0; tariff 0; slot 1 1 1; tariff 3; slot 2 1 2; set 0 11 7; set 0 12 9; set 0 13 5000; row 0 60";
         new Bench("22 flat").due(setUp,
             "hire 0 7 0 0; extra 3; run 60; fare = 343; about 15 = 0; end 9 = 5003; about 15 = 1; fare = 5003; about 5 = 3; receipt 0 0 = 5003",
-            "hire 0 9 0 0; about 15 = 0; end 7 = 5000; hire 0 7 0 0; end 7 = 300; about 15 = 0; hire 0 9 0 0; end 9 = 300; hire 0 7 0 0; end 8 = 300; hire 0 8 0 0; end 9 = 300",
-            "set 0 12 7; hire 0 7 0 0; end 7 = 5000; hire 0 7 0 0; end 9 = 300; hire 0 9 0 0; end 9 = 300; hire 0 8 0 0; end 8 = 300; hire 0 9 0 0; end 7 = 300");
+            "hire 0 9 0 0; about 15 = 0; end 7 = 5000; hire 0 7 0 0; end 7 = 300; about 15 = 0; hire 0 9 0 0; end 9 = 300; hire 0 7 0 0; "
+                + "end 8 = 300; hire 0 8 0 0; end 9 = 300",
+            "set 0 12 7; hire 0 7 0 0; end 7 = 5000; hire 0 7 0 0; end 9 = 300; hire 0 9 0 0; end 9 = 300; hire 0 8 0 0; end 8 = 300; "
+                + "hire 0 9 0 0; end 7 = 300");
         new Bench("22 flat and hands").due(setUp,
-            "hire 0 7 0 0; hand 0 = 0; end 9 = 5000; hire 0 7 0 0; hand 1; end 9 = 300; hire 0 7 0 0; hand 1; hand 0; end 9 = 300; about 15 = 0; about 9 = 0",
+            "hire 0 7 0 0; hand 0 = 0; end 9 = 5000; hire 0 7 0 0; hand 1; end 9 = 300; hire 0 7 0 0; hand 1; hand 0; end 9 = 300; "
+                + "about 15 = 0; about 9 = 0",
             "hire 1 7 0 0; hand 0; end 9 = 300; hire 2 7 0 0; hand 0; end 9 = 300; hire 2 0 0 0; end 1 = 4000");
     }
 }

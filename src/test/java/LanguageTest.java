@@ -17,7 +17,8 @@ public final class LanguageTest {
     private static final Path SOURCE = Path.of("src/main/java/FareClock.java");
     private static final String[] REFUSED = {
         "->", "::", "\\bcatch\\b", "\\btry\\b", "\\bfinally\\b", "\\bsynchronized\\b", "\\bassert\\b", "static \\{", "\\bprotected\\b", "Exact\\(",
-        "\\bequals\\(", "\\bhashCode\\b", "\\btoString\\b", "\\bSystem\\.(?!arraycopy)", "\\bpackage\\b", "\\bwhile \\(true\\)", "for \\(;;\\)", "\\bvar\\b",
+        "\\bequals\\(", "\\bhashCode\\b", "\\btoString\\b", "\\bSystem\\.(?!arraycopy)", "\\bpackage\\b", "\\bwhile \\(true\\)",
+            "for \\(;;\\)", "\\bvar\\b",
         "\\bThread\\b", "\\bObject\\b", "\\bMath\\.(?!min|max)"
     };
     private static final Set<String> LIBRARY = Set.of("java.util.Arrays", "java.util.NoSuchElementException");

@@ -6,7 +6,8 @@ import java.util.Map;
 /** Calls that bring a new object into states in which calls are refused; by names of the states. */
 final class States {
     private static final String SETTLED =
-        "wheel 3 0 7; row 0 60; row 1 9; row 2 0; pulse 0 2 40; pulse 0 5 7; pulse 1 8 500; tariff 0; tariff 1; tariff 2; tariff 3; tariff 4; seal; seal; seal; "
+        "wheel 3 0 7; row 0 60; row 1 9; row 2 0; pulse 0 2 40; pulse 0 5 7; pulse 1 8 500; tariff 0; tariff 1; tariff 2; tariff 3; "
+            + "tariff 4; seal; seal; seal; "
         + "slot 0 1 0; slot 1 1 1; slot 2 1 2; slot 3 1 3; slot 4 1 4; slot 6 2 0; slot 7 2 1; slot 11 1 3; set 0 4 7; set 1 4 11; set 2 9 20000; "
         + "set 3 1 4; leg 5000 10; leg 20000 7; should 2 3 4 1300 5; ";
     private static final String HIRED =

@@ -29,7 +29,8 @@ public final class WheelAndRowsTest {
             "wheel 11 0 1 = ARGUMENT; wheel 1 4 1 = ARGUMENT; wheel 0 0 1 = ARGUMENT; wheel -2 0 1 = ARGUMENT",
             "wheel 104857 20 1 = ARGUMENT; wheel 10487000 20 1 = ARGUMENT; wheel 2147483647 0 1 = ARGUMENT",
             "wheel -2147483648 0 1 = ARGUMENT; wheel -2147483648 20 1 = ARGUMENT",
-            "wheel 2 -1 1 = ARGUMENT; wheel 2 21 1 = ARGUMENT; wheel 2097152 21 1 = ARGUMENT; wheel 2097152 20 1 = 2000; wheel 2 0 4; wheel 2 32 1 = ARGUMENT",
+            "wheel 2 -1 1 = ARGUMENT; wheel 2 21 1 = ARGUMENT; wheel 2097152 21 1 = ARGUMENT; wheel 2097152 20 1 = 2000; wheel 2 0 4; "
+                + "wheel 2 32 1 = ARGUMENT",
             "wheel 2 0 0 = ARGUMENT; wheel 2 0 201 = ARGUMENT; wheel 2 0 -1 = ARGUMENT",
             "tariff 0; slot 0 1 0; row 0 60; pulse 0 0 3; hire 0 0 0 0; second; about 6 = 1500");
         new Bench("2 wheel and a hire").due(
